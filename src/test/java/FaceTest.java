@@ -1,0 +1,85 @@
+import java.lang.management.ManagementFactory;
+import java.lang.reflect.Constructor;
+import java.lang.reflect.Field;
+import java.lang.reflect.Method;
+import java.lang.reflect.Modifier;
+import java.util.Arrays;
+import java.util.Set;
+import java.util.TreeSet;
+
+/** The public face, and the room that a run of calls takes. */
+public final class FaceTest {
+    public static void main(String[] args) {
+        members();
+        methods();
+        room();
+        Expect.finish("FaceTest");
+    }
+
+    private static void members() {
+        Class<?> c = StackedRows.class;
+        Expect.isTrue("public and final", Modifier.isPublic(c.getModifiers()) && Modifier.isFinal(c.getModifiers()));
+        for (Field f : c.getDeclaredFields()) {
+            boolean known = f.getName().equals("NONE") || f.getName().equals("LOST");
+            Expect.isTrue("field " + f.getName(), known || Modifier.isPrivate(f.getModifiers()));
+            Expect.isTrue("static is final", !Modifier.isStatic(f.getModifiers()) || Modifier.isFinal(f.getModifiers()));
+        }
+        Constructor<?>[] made = c.getDeclaredConstructors();
+        Expect.isTrue("one constructor", made.length == 1 && made[0].getParameterCount() == 0
+                && Modifier.isPublic(made[0].getModifiers()));
+        for (Class<?> inside : c.getDeclaredClasses()) {
+            Expect.isTrue("static " + inside, Modifier.isStatic(inside.getModifiers()));
+            Expect.isTrue("not public " + inside, !Modifier.isPublic(inside.getModifiers()));
+        }
+        Expect.isTrue("not too many classes", c.getDeclaredClasses().length < 12);
+    }
+
+    private static void methods() {
+        Set<String> due = new TreeSet<>(Set.of("feed/5:int", "end/1:void", "byteAt/1:int", "codewords/0:int", "codeword/1:int",
+                "make/2:int", "blank/2:void", "place/2:int", "put/3:void", "solve/0:int"));
+        due.add("solved/1:int");
+        due.add("count/1:int");
+        Set<String> got = new TreeSet<>();
+        Set<String> names = new TreeSet<>();
+        for (Method m : StackedRows.class.getDeclaredMethods()) {
+            if (Modifier.isPublic(m.getModifiers())) {
+                got.add(m.getName() + "/" + m.getParameterCount() + ":" + m.getReturnType());
+                names.add(m.getName());
+                Expect.isTrue("numbers alone", Arrays.stream(m.getParameterTypes()).allMatch(t -> t == int.class));
+            }
+        }
+        Expect.isTrue("methods are " + got, got.equals(due));
+        for (Method m : StackedRows.class.getDeclaredMethods()) {
+            Expect.isTrue("private " + m, Modifier.isPublic(m.getModifiers()) || Modifier.isPrivate(m.getModifiers())
+                    && !names.contains(m.getName()));
+        }
+    }
+
+    /** All rows are made in the constructor: 512 of the dearest calls make nothing. */
+    private static void room() {
+        dearCalls(new StackedRows());
+        com.sun.management.ThreadMXBean threads =
+                (com.sun.management.ThreadMXBean) ManagementFactory.getThreadMXBean();
+        long before = threads.getCurrentThreadAllocatedBytes();
+        StackedRows x = new StackedRows();
+        long made = threads.getCurrentThreadAllocatedBytes();
+        dearCalls(x);
+        long after = threads.getCurrentThreadAllocatedBytes();
+        Expect.isTrue("an object takes " + (made - before), made - before < 4 * 14_000);
+        Expect.isTrue("its calls take " + (after - made), after - made < 20_000);
+    }
+
+    private static void dearCalls(StackedRows x) {
+        for (int round = 0; round < 40; round++) {
+            x.end(0);
+            x.feed(round, 0x31323334, 0x35363738, 0x39303132, 0x33343536);
+            x.codewords();
+            x.make(8, 29);
+            for (int i = 0; i < 4; i++) {
+                x.put(i, 3 + i, i);
+                x.put(i, 9 + i, StackedRows.LOST);
+            }
+            x.solve();
+        }
+    }
+}
