@@ -5,7 +5,7 @@ public final class StackedRows {
     public static final int NONE = -1, LOST = -1;
 
     private static final int MOST_BYTES = 1200;
-    /** A codeword of a way and one more for each byte is the most that writing can come to. */
+    /** No byte takes more than two codewords, a change of the way before it among them. */
     private static final int MOST_WRITTEN = 2 * MOST_BYTES;
 
     private static final int LEAST_ROWS = 3;

@@ -9,6 +9,7 @@ public final class ReadingTest {
         bytes();
         digits();
         filling();
+        faultsBehindFault5();
         noSuchCodewords();
         tooManyBytes();
         roundTrips();
@@ -93,6 +94,10 @@ public final class ReadingTest {
         faultAt(2, 913, 913, 1);
         faultAt(2, 913);
         faultAt(4, 1, 1, 913);
+        for (int before = 0; before < 60; before++) {
+            // The first check, which comes behind 913 here, is a byte's codeword in some of these.
+            faultAt(3, before, 913);
+        }
         faultAt(4, 1, 913, 255, 928);
         faultAt(2, 901, 913, 1);
         faultAt(2, 924, 913, 1);
@@ -163,6 +168,28 @@ public final class ReadingTest {
         reads(codewords(924, 900), "");
         reads(codewords(902, 15, 900, 900), "5");
         reads(codewords(900, 1, 900, 1, 900), "ABAB");
+    }
+
+    private static void faultsBehindFault5() {
+        faultAt(3, 1, 1, 903);
+        X.put(0, 1, StackedRows.LOST);
+        Expect.equal("solve", X.solve(), -1);
+        Expect.equal("fault 3 behind fault 5", Tools.solvedOf(X), 3, 0, 0, 0);
+        faultAt(3, 1, 1, 903);
+        Tools.handRow(X, 0, 1, 2, 1, 903);
+        Expect.equal("solve", X.solve(), -1);
+        Expect.equal("fault 4 behind fault 5", Tools.solvedOf(X), 4, 0, 0, 0);
+        faultAt(3, 1, 1, 903);
+        X.put(0, 0, 29);
+        X.put(1, 2, 29);
+        X.put(3, 0, 59);
+        X.put(4, 2, 59);
+        Expect.equal("solve", X.solve(), -1);
+        Expect.equal("fault 2 behind fault 5", Tools.solvedOf(X), 2, 0, 0, 0);
+        faultAt(3, 1, 1, 903);
+        X.blank(3, 1);
+        Expect.equal("solve", X.solve(), -1);
+        Expect.equal("fault 1 behind fault 5", Tools.solvedOf(X), 1, 0, 0, 0);
     }
 
     private static void noSuchCodewords() {

@@ -191,9 +191,11 @@ public final class SolvingTest {
     /** Far from every row, or as near to one as may be: the answer is told by the row that is found. */
     private static void manyRandom() {
         Tools.Dice dice = new Tools.Dice(7);
+        StackedRows x = new StackedRows();
         for (int round = 0; round < 400; round++) {
             int level = dice.below(5);
-            StackedRows x = made("ABCDEFGHIJ", level, 1 + dice.below(12));
+            Tools.tape(x, Tools.bytesOf("ABCDEFGHIJ"));
+            x.make(level, 1 + dice.below(12));
             int n = Tools.rowOf(x).length;
             int k = 2 << level;
             int t = dice.below(Math.min(k, n / 2));
