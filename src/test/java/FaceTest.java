@@ -13,6 +13,7 @@ public final class FaceTest {
         members();
         methods();
         room();
+        lastCalls();
         Expect.finish("FaceTest");
     }
 
@@ -70,7 +71,7 @@ public final class FaceTest {
     }
 
     private static void dearCalls(StackedRows x) {
-        for (int round = 0; round < 40; round++) {
+        for (int round = 0; round < 39; round++) {
             x.end(0);
             x.feed(round, 0x31323334, 0x35363738, 0x39303132, 0x33343536);
             x.codewords();
@@ -81,5 +82,26 @@ public final class FaceTest {
             }
             x.solve();
         }
+    }
+
+    /** "An object is used for at most 512 calls": the last of them is answered as the first. */
+    private static void lastCalls() {
+        Rows x = Tools.made("ABCDE", 8, 29);
+        x.put(0, 1, 7);
+        while (x.calls() < Rows.MOST_CALLS - 6) {
+            Expect.equal("solve, call " + x.calls(), x.solve(), 5);
+        }
+        Expect.equal("wrong ones", x.solved(2), 1);
+        Expect.equal("bytes", x.count(0), 5);
+        Expect.equal("the first codeword", x.codeword(0), 1);
+        Expect.thrown("codeword(3)", IndexOutOfBoundsException.class, () -> x.codeword(3));
+        Expect.equal("feed", x.feed(1, 2, 3, 4, 5), 25);
+        Expect.equal("the 512th call", x.solve(), 5);
+        Rows most = new Rows();
+        Expect.equal("all are checks but the length", most.make(8, 19), 27);
+        for (int i = 1; i <= 510; i++) {
+            Tools.putCodeword(most, i, StackedRows.LOST);
+        }
+        Expect.equal("the 512th call, with the most lost", most.solve(), 0);
     }
 }

@@ -1,7 +1,7 @@
+import java.util.function.Supplier;
+
 /** Promises 11 and 12: how codewords are read, and fault 5. */
 public final class ReadingTest {
-    private static final StackedRows X = new StackedRows();
-
     public static void main(String[] args) {
         text();
         textAlone();
@@ -21,18 +21,20 @@ public final class ReadingTest {
     }
 
     private static void reads(int[] codewords, String due) {
-        Tools.hand(X, 0, codewords);
-        Expect.equal("solve of " + shown(codewords), X.solve(), due.length());
-        Expect.equal("bytes of " + shown(codewords), Tools.tapeOf(X), Tools.bytesOf(due));
-        Expect.equal("solved of " + shown(codewords), Tools.solvedOf(X), 0, 0, 0, 0);
+        Rows x = Tools.withTape(1, 2, 3);
+        Tools.hand(x, 0, codewords);
+        Expect.equal("solve of " + shown(codewords), x.solve(), due.length());
+        Expect.equal("bytes of " + shown(codewords), Tools.tapeOf(x), Tools.bytesOf(due));
+        Expect.equal("solved of " + shown(codewords), Tools.solvedOf(x), 0, 0, 0, 0);
     }
 
-    private static void faultAt(int at, int... codewords) {
-        Tools.tape(X, 1, 2, 3);
-        Tools.hand(X, 0, codewords);
-        Expect.equal("solve of " + shown(codewords), X.solve(), -1);
-        Expect.equal("solved of " + shown(codewords), Tools.solvedOf(X), 5, at, 0, 0);
-        Expect.equal("the tape stays", Tools.tapeOf(X), 1, 2, 3);
+    private static Rows faultAt(int at, int... codewords) {
+        Rows x = Tools.withTape(1, 2, 3);
+        Tools.hand(x, 0, codewords);
+        Expect.equal("solve of " + shown(codewords), x.solve(), -1);
+        Expect.equal("solved of " + shown(codewords), Tools.solvedOf(x), 5, at, 0, 0);
+        Expect.equal("the tape stays", Tools.tapeOf(x), 1, 2, 3);
+        return x;
     }
 
     private static int[] codewords(int... codewords) {
@@ -149,9 +151,9 @@ public final class ReadingTest {
         reads(codewords(902, 0, 0, 17), "7");
         reads(codewords(902, 0, 0, 0, 0, 0, 0, 0, 0, 0, 0, 0, 0, 0, 0, 17, 18), "78");
         reads(codewords(902, 17, 902, 18), "78");
-        Tools.tape(X, Tools.bytesOf("0".repeat(44)));
-        Expect.equal("44 zeros have 15", Tools.codewordsOf(X).length, 16);
-        reads(Tools.codewordsOf(X), "0".repeat(44));
+        int[] zeros = Tools.codewordsOf(Tools.withTape("0".repeat(44)));
+        Expect.equal("44 zeros have 15", zeros.length, 16);
+        reads(zeros, "0".repeat(44));
         faultAt(2, 902, 0);
         faultAt(2, 902, 2);
         faultAt(2, 902, 899);
@@ -170,26 +172,27 @@ public final class ReadingTest {
         reads(codewords(900, 1, 900, 1, 900), "ABAB");
     }
 
+    /** The latest solve() alone counts: an earlier fault 5 leaves nothing behind. */
     private static void faultsBehindFault5() {
-        faultAt(3, 1, 1, 903);
-        X.put(0, 1, StackedRows.LOST);
-        Expect.equal("solve", X.solve(), -1);
-        Expect.equal("fault 3 behind fault 5", Tools.solvedOf(X), 3, 0, 0, 0);
-        faultAt(3, 1, 1, 903);
-        Tools.handRow(X, 0, 1, 2, 1, 903);
-        Expect.equal("solve", X.solve(), -1);
-        Expect.equal("fault 4 behind fault 5", Tools.solvedOf(X), 4, 0, 0, 0);
-        faultAt(3, 1, 1, 903);
-        X.put(0, 0, 29);
-        X.put(1, 2, 29);
-        X.put(3, 0, 59);
-        X.put(4, 2, 59);
-        Expect.equal("solve", X.solve(), -1);
-        Expect.equal("fault 2 behind fault 5", Tools.solvedOf(X), 2, 0, 0, 0);
-        faultAt(3, 1, 1, 903);
-        X.blank(3, 1);
-        Expect.equal("solve", X.solve(), -1);
-        Expect.equal("fault 1 behind fault 5", Tools.solvedOf(X), 1, 0, 0, 0);
+        Rows x = faultAt(3, 1, 1, 903);
+        x.put(0, 1, StackedRows.LOST);
+        Expect.equal("solve", x.solve(), -1);
+        Expect.equal("fault 3 behind fault 5", Tools.solvedOf(x), 3, 0, 0, 0);
+        x = faultAt(3, 1, 1, 903);
+        Tools.handRow(x, 0, 1, 2, 1, 903);
+        Expect.equal("solve", x.solve(), -1);
+        Expect.equal("fault 4 behind fault 5", Tools.solvedOf(x), 4, 0, 0, 0);
+        x = faultAt(3, 1, 1, 903);
+        x.put(0, 0, 29);
+        x.put(1, 2, 29);
+        x.put(3, 0, 59);
+        x.put(4, 2, 59);
+        Expect.equal("solve", x.solve(), -1);
+        Expect.equal("fault 2 behind fault 5", Tools.solvedOf(x), 2, 0, 0, 0);
+        x = faultAt(3, 1, 1, 903);
+        x.blank(3, 1);
+        Expect.equal("solve", x.solve(), -1);
+        Expect.equal("fault 1 behind fault 5", Tools.solvedOf(x), 1, 0, 0, 0);
     }
 
     private static void noSuchCodewords() {
@@ -208,27 +211,51 @@ public final class ReadingTest {
         faultAt(2, 1, 903, 904);
     }
 
+    /** 1200 bytes of text are 600 codewords; in 28 columns thirteen of filling come behind them, to be written over. */
+    private static Rows fullAndMore(int... more) {
+        int[] data = new int[614];
+        java.util.Arrays.fill(data, 601, 614, 900);
+        data[0] = 614;
+        System.arraycopy(more, 0, data, 601, more.length);
+        int[] row = Tools.withChecks(data, 2);
+        Rows x = Tools.made("A".repeat(1200), 0, 28);
+        for (int i = 601; i < 616; i++) {
+            Tools.putCodeword(x, i, row[i]);
+        }
+        x.end(1);
+        return x;
+    }
+
     private static void tooManyBytes() {
-        StackedRows x = new StackedRows();
-        int[] zeros = new int[600];
-        Tools.hand(x, 0, zeros);
+        Rows x = fullAndMore();
         Expect.equal("1200 bytes", x.solve(), 1200);
         Expect.equal("the last", x.byteAt(1199), 65);
-        x.end(1);
-        Tools.hand(x, 1, java.util.Arrays.copyOf(zeros, 601));
-        Tools.putCodeword(x, 3, 5);
-        Expect.thrown("1202 bytes", UnsupportedOperationException.class, x::solve);
-        Expect.equal("the tape stays", x.count(0), 1);
+        Expect.thrown("byte 1200", IndexOutOfBoundsException.class, () -> x.byteAt(1200));
+        Rows nothingMore = fullAndMore(29 * 30 + 29, 901, 902, 924, 900);
+        Expect.equal("1200 bytes, and numbers that are nothing", nothingMore.solve(), 1200);
+        tooMany("1201 bytes", 0 * 30 + 29);
+        tooMany("1201 bytes by 913", 913, 0);
+        tooMany("1201 bytes by 901", 901, 0);
+        tooMany("1201 bytes by 902", 902, 10);
+        tooMany("1202 bytes", 0);
+        tooMany("1206 bytes by 924", 924, 0, 0, 0, 0, 0);
+        faultBehindFull(601, 903);
+        faultBehindFull(602, 913);
+        faultBehindFull(604, 0, 0, 0, 903);
+    }
+
+    private static void tooMany(String what, int... more) {
+        Rows x = fullAndMore(more);
+        Expect.thrown(what, UnsupportedOperationException.class, x::solve);
+        Expect.equal("the tape stays", Tools.tapeOf(x), 65);
         Expect.equal("solved stays", Tools.solvedOf(x), 0, 0, 0, 0);
-        int[] odd = java.util.Arrays.copyOf(zeros, 601);
-        odd[600] = 29;
-        Tools.hand(x, 1, odd);
-        Expect.thrown("1201 bytes", UnsupportedOperationException.class, x::solve);
-        int[] spoilt = java.util.Arrays.copyOf(zeros, 700);
-        spoilt[699] = 903;
-        Tools.hand(x, 1, spoilt);
+    }
+
+    private static void faultBehindFull(int at, int... more) {
+        Rows x = fullAndMore(more);
         Expect.equal("a fault behind 1200 bytes", x.solve(), -1);
-        Expect.equal("its number", Tools.solvedOf(x), 5, 700, 0, 1);
+        Expect.equal("its number", Tools.solvedOf(x), 5, at, 0, 0);
+        Expect.equal("the tape stays", Tools.tapeOf(x), 65);
     }
 
     /** What is written is read again, whatever bytes it is. */
@@ -236,17 +263,23 @@ public final class ReadingTest {
         Tools.Dice dice = new Tools.Dice(3);
         for (int round = 0; round < 1500; round++) {
             int[] bytes = someBytes(dice, dice.below(round % 50 == 0 ? 1000 : 60));
-            Tools.tape(X, bytes);
-            int[] written = Tools.codewordsOf(X);
-            if (written.length > 900) {
-                continue;
+            int written = Tools.withTape(bytes).codewords();
+            if (written <= 900) {
+                roundTrip("round " + round, bytes, written);
             }
-            X.make(0, 1 + written.length / 60);
-            X.end(0);
-            Expect.equal("round " + round, X.solve(), bytes.length);
-            Expect.equal("round " + round, Tools.tapeOf(X), bytes);
-            Expect.equal("written again", Tools.codewordsOf(X), written);
         }
+    }
+
+    private static void roundTrip(String what, int[] bytes, int written) {
+        Supplier<Rows> again = () -> {
+            Rows x = Tools.withTape(bytes);
+            x.make(0, 1 + written / 60);
+            x.end(0);
+            Expect.equal(what, x.solve(), bytes.length);
+            return x;
+        };
+        Expect.equal(what, Tools.tapeOf(again), bytes);
+        Expect.equal(what, again.get().codewords(), written);
     }
 
     private static int[] someBytes(Tools.Dice dice, int length) {

@@ -1,9 +1,11 @@
 import java.util.ArrayList;
 import java.util.List;
+import java.util.function.Supplier;
 
 /** What several tests need; it follows the document by ways of its own. */
 final class Tools {
     static final int PRIME = 929;
+    private static final int LOOKS_AT_ONCE = 200;
 
     private Tools() {
     }
@@ -31,7 +33,7 @@ final class Tools {
     }
 
     /** The tape behind this has just these bytes (1200 at the most). */
-    static void tape(StackedRows x, int... bytes) {
+    static void tape(Rows x, int... bytes) {
         x.end(0);
         for (int at = 0; at < bytes.length; at += 20) {
             int[] five = new int[5];
@@ -44,7 +46,7 @@ final class Tools {
         x.end(bytes.length);
     }
 
-    static int[] tapeOf(StackedRows x) {
+    static int[] tapeOf(Rows x) {
         int[] bytes = new int[x.count(0)];
         for (int i = 0; i < bytes.length; i++) {
             bytes[i] = x.byteAt(i);
@@ -52,7 +54,7 @@ final class Tools {
         return bytes;
     }
 
-    static int[] codewordsOf(StackedRows x) {
+    static int[] codewordsOf(Rows x) {
         int[] codewords = new int[x.codewords()];
         for (int i = 0; i < codewords.length; i++) {
             codewords[i] = x.codeword(i);
@@ -60,26 +62,78 @@ final class Tools {
         return codewords;
     }
 
+    interface Look {
+        int at(Rows x, int i);
+    }
+
+    /** So many answers, each of an object that was built alike: one object would need more calls than it may have. */
+    static int[] looks(Supplier<Rows> build, int size, Look look) {
+        int[] answers = new int[size];
+        for (int from = 0; from < size; from += LOOKS_AT_ONCE) {
+            Rows x = build.get();
+            for (int i = from; i < Math.min(from + LOOKS_AT_ONCE, size); i++) {
+                answers[i] = look.at(x, i);
+            }
+        }
+        return answers;
+    }
+
+    static int[] tapeOf(Supplier<Rows> build) {
+        return looks(build, build.get().count(0), Rows::byteAt);
+    }
+
+    static int[] codewordsOf(Supplier<Rows> build) {
+        return looks(build, build.get().codewords(), Rows::codeword);
+    }
+
+    static int[] rowOf(Supplier<Rows> build) {
+        Rows x = build.get();
+        return looks(build, x.rows() * x.columns(), Tools::codewordAt);
+    }
+
+    /** All places, the indicators too. */
+    static int[] placesOf(Supplier<Rows> build) {
+        Rows x = build.get();
+        int wide = x.columns() + 2;
+        return looks(build, x.rows() * wide, (y, i) -> y.place(i / wide, i % wide));
+    }
+
+    static Rows withTape(int... bytes) {
+        Rows x = new Rows();
+        tape(x, bytes);
+        return x;
+    }
+
+    static Rows withTape(String text) {
+        return withTape(bytesOf(text));
+    }
+
+    static Rows made(String text, int level, int columns) {
+        Rows x = withTape(text);
+        x.make(level, columns);
+        return x;
+    }
+
     /** The codewords 0 .. N - 1 of the symbol. */
-    static int[] rowOf(StackedRows x) {
-        int columns = x.count(2);
-        int[] row = new int[x.count(1) * columns];
+    static int[] rowOf(Rows x) {
+        int columns = x.columns();
+        int[] row = new int[x.rows() * columns];
         for (int i = 0; i < row.length; i++) {
             row[i] = x.place(i / columns, 1 + i % columns);
         }
         return row;
     }
 
-    static int[] solvedOf(StackedRows x) {
+    static int[] solvedOf(Rows x) {
         return new int[] {x.solved(0), x.solved(1), x.solved(2), x.solved(3)};
     }
 
-    static void putCodeword(StackedRows x, int i, int codeword) {
-        x.put(i / x.count(2), 1 + i % x.count(2), codeword);
+    static void putCodeword(Rows x, int i, int codeword) {
+        x.put(i / x.columns(), 1 + i % x.columns(), codeword);
     }
 
-    static int codewordAt(StackedRows x, int i) {
-        return x.place(i / x.count(2), 1 + i % x.count(2));
+    static int codewordAt(Rows x, int i) {
+        return x.place(i / x.columns(), 1 + i % x.columns());
     }
 
     /** The sum of the document for x = 3^j. */
@@ -125,9 +179,9 @@ final class Tools {
         return row;
     }
 
-    static void putIndicators(StackedRows x, int level) {
-        int rows = x.count(1);
-        int columns = x.count(2);
+    static void putIndicators(Rows x, int level) {
+        int rows = x.rows();
+        int columns = x.columns();
         int[] abc = {(rows - 1) / 3, 3 * level + (rows - 1) % 3, columns - 1};
         int[] right = {abc[2], abc[0], abc[1]};
         for (int row = 0; row < rows; row++) {
@@ -137,7 +191,7 @@ final class Tools {
     }
 
     /** A symbol with these codewords behind a length; up to 90 in all it is one column, with filling only up to three rows. */
-    static void hand(StackedRows x, int level, int... codewords) {
+    static void hand(Rows x, int level, int... codewords) {
         int k = 2 << level;
         int n = Math.max(3, 1 + codewords.length + k);
         int columns = (n + 89) / 90;
@@ -154,7 +208,7 @@ final class Tools {
     }
 
     /** A symbol with this data, the length among it, in so many columns. */
-    static void handRow(StackedRows x, int level, int columns, int... data) {
+    static void handRow(Rows x, int level, int columns, int... data) {
         int[] row = withChecks(data, 2 << level);
         x.blank(row.length / columns, columns);
         putIndicators(x, level);

@@ -4,8 +4,6 @@ import java.util.List;
 
 /** Promises 5 and 6: how bytes are written as codewords. */
 public final class WritingTest {
-    private static final StackedRows X = new StackedRows();
-
     public static void main(String[] args) {
         sets();
         textChanges();
@@ -19,9 +17,7 @@ public final class WritingTest {
     }
 
     private static void written(String text, int... due) {
-        Tools.tape(X, Tools.bytesOf(text));
-        Expect.equal("codewords of " + text, Tools.codewordsOf(X), due);
-        Expect.equal("codewords()", X.codewords(), due.length);
+        Expect.equal("codewords of " + text, Tools.codewordsOf(() -> Tools.withTape(text)), due);
     }
 
     /** Codewords of numbers of text. */
@@ -119,13 +115,10 @@ public final class WritingTest {
             for (int i = 0; i < n; i++) {
                 bytes[i] = 128 + i * 37 % 128;
             }
-            Tools.tape(X, bytes);
-            Expect.equal(n + " bytes", Tools.codewordsOf(X), bytesWritten(bytes));
+            Expect.equal(n + " bytes", Tools.codewordsOf(Tools.withTape(bytes)), bytesWritten(bytes));
         }
-        Tools.tape(X, 255, 255, 255, 255, 255, 255);
-        Expect.equal("the highest six", Tools.codewordsOf(X), 924, 429, 11, 71, 222, 855);
-        Tools.tape(X, 0, 0, 0, 0, 0, 0);
-        Expect.equal("the lowest six", Tools.codewordsOf(X), 924, 0, 0, 0, 0, 0);
+        written("\u00ff".repeat(6), 924, 429, 11, 71, 222, 855);
+        written("\0".repeat(6), 924, 0, 0, 0, 0, 0);
     }
 
     private static int[] bytesWritten(int[] bytes) {
@@ -176,21 +169,21 @@ public final class WritingTest {
     }
 
     private static void limits() {
-        Tools.tape(X, Tools.bytesOf("AB"));
-        Expect.equal("codeword(0)", X.codeword(0), 1);
-        Expect.thrown("codeword(1)", IndexOutOfBoundsException.class, () -> X.codeword(1));
-        Expect.thrown("codeword(-1)", IndexOutOfBoundsException.class, () -> X.codeword(-1));
-        Expect.thrown("codeword(least)", IndexOutOfBoundsException.class, () -> X.codeword(Integer.MIN_VALUE));
-        Expect.thrown("codeword(most)", IndexOutOfBoundsException.class, () -> X.codeword(Integer.MAX_VALUE));
-        X.end(1);
-        Expect.equal("codeword(0) follows the tape", X.codeword(0), 29);
-        X.feed(0x42424242, 0x42424242, 0x42424242, 0x42424242, 0x42424242);
-        Expect.equal("codewords follow the tape", X.codewords(), 11);
-        X.make(0, 3);
-        X.end(0);
-        Expect.equal("none", X.codewords(), 0);
-        X.solve();
-        Expect.equal("codewords follow solve", X.codewords(), 11);
+        Rows x = Tools.withTape("AB");
+        Expect.equal("codeword(0)", x.codeword(0), 1);
+        Expect.thrown("codeword(1)", IndexOutOfBoundsException.class, () -> x.codeword(1));
+        Expect.thrown("codeword(-1)", IndexOutOfBoundsException.class, () -> x.codeword(-1));
+        Expect.thrown("codeword(least)", IndexOutOfBoundsException.class, () -> x.codeword(Integer.MIN_VALUE));
+        Expect.thrown("codeword(most)", IndexOutOfBoundsException.class, () -> x.codeword(Integer.MAX_VALUE));
+        x.end(1);
+        Expect.equal("codeword(0) follows the tape", x.codeword(0), 29);
+        x.feed(0x42424242, 0x42424242, 0x42424242, 0x42424242, 0x42424242);
+        Expect.equal("codewords follow the tape", x.codewords(), 11);
+        x.make(0, 3);
+        x.end(0);
+        Expect.equal("none", x.codewords(), 0);
+        x.solve();
+        Expect.equal("codewords follow solve", x.codewords(), 11);
         dearest();
     }
 
@@ -201,8 +194,7 @@ public final class WritingTest {
             text.append("a1a1a\u0080\u0081");
         }
         text.setLength(1200);
-        Tools.tape(X, Tools.bytesOf(text.toString()));
-        int[] written = Tools.codewordsOf(X);
+        int[] written = Tools.codewordsOf(() -> Tools.withTape(text.toString()));
         Expect.isTrue("many codewords", written.length > 1400);
         Expect.equal("the second way", written[5], 901);
     }
