@@ -4,17 +4,35 @@ import java.lang.reflect.Field;
 import java.lang.reflect.Method;
 import java.lang.reflect.Modifier;
 import java.util.Arrays;
+import java.util.List;
+import java.util.Map;
 import java.util.Set;
+import java.util.TreeMap;
 import java.util.TreeSet;
 
 /** The public face, and the room that a run of calls takes. */
 public final class FaceTest {
     public static void main(String[] args) {
+        constants();
         members();
         methods();
+        declaredThrows();
         room();
         lastCalls();
         Expect.finish("FaceTest");
+    }
+
+    private static void constants() {
+        for (String name : new String[] {"NONE", "LOST"}) {
+            try {
+                Field f = StackedRows.class.getDeclaredField(name);
+                int due = Modifier.PUBLIC | Modifier.STATIC | Modifier.FINAL;
+                Expect.isTrue(name + " is a public constant", f.getModifiers() == due && f.getType() == int.class);
+                Expect.equal(name, f.getInt(null), -1);
+            } catch (ReflectiveOperationException e) {
+                Expect.isTrue(name + " is there", false);
+            }
+        }
     }
 
     private static void members() {
@@ -53,6 +71,29 @@ public final class FaceTest {
         for (Method m : StackedRows.class.getDeclaredMethods()) {
             Expect.isTrue("private " + m, Modifier.isPublic(m.getModifiers()) || Modifier.isPrivate(m.getModifiers())
                     && !names.contains(m.getName()));
+        }
+    }
+
+    /** Each method declares what the document's face names, in its order. */
+    private static void declaredThrows() {
+        Map<String, List<Class<?>>> due = new TreeMap<>(Map.of(
+                "feed", List.of(UnsupportedOperationException.class),
+                "end", List.of(IllegalArgumentException.class),
+                "byteAt", List.of(IndexOutOfBoundsException.class),
+                "codeword", List.of(IndexOutOfBoundsException.class),
+                "make", List.of(IllegalArgumentException.class, UnsupportedOperationException.class),
+                "blank", List.of(IllegalArgumentException.class),
+                "place", List.of(IllegalStateException.class, IndexOutOfBoundsException.class),
+                "put", List.of(IllegalStateException.class, IndexOutOfBoundsException.class, IllegalArgumentException.class),
+                "solve", List.of(IllegalStateException.class, UnsupportedOperationException.class),
+                "solved", List.of(IndexOutOfBoundsException.class)));
+        due.put("count", List.of(IllegalArgumentException.class));
+        due.put("codewords", List.of());
+        for (Method m : StackedRows.class.getDeclaredMethods()) {
+            if (Modifier.isPublic(m.getModifiers())) {
+                List<Class<?>> got = List.of(m.getExceptionTypes());
+                Expect.isTrue(m.getName() + " throws " + got, got.equals(due.get(m.getName())));
+            }
         }
     }
 
